@@ -416,8 +416,7 @@ public final class StrokesHeard {
         if (now.textCount >= MOST_TEXTS) {
             return FULL;
         }
-        now.texts[now.textCount] = reader.newText();
-        now.textCount++;
+        now.addText(reader.newText());
         return now.textCount - 1;
     }
 
@@ -430,7 +429,7 @@ public final class StrokesHeard {
     }
 
     public int why(int key) {
-        return within(key, KEYS) ? now.lawNumber(key) : BAD;
+        return within(key, KEYS) ? now.lawNumbers[key] : BAD;
     }
 
     // ---- sheets, slots
@@ -753,6 +752,8 @@ public final class StrokesHeard {
         int noteCount = 0;
         final Text[] texts = new Text[MOST_TEXTS];
         int textCount = 0;
+        /** For each KEY the number of the TEXT that counts, or NONE. */
+        final int[] lawNumbers = {NONE, NONE, NONE};
 
         Night() {
             for (int i = 0; i < MOST_CLOCKS; i++) {
@@ -779,6 +780,7 @@ public final class StrokesHeard {
                 texts[i] = other.texts[i];
             }
             textCount = other.textCount;
+            System.arraycopy(other.lawNumbers, 0, lawNumbers, 0, KEYS);
         }
 
         boolean hasClock(int clock) {
@@ -814,23 +816,21 @@ public final class StrokesHeard {
             }
         }
 
-        /** The number of the TEXT that counts for a KEY, or NONE. */
-        int lawNumber(int key) {
-            for (int i = textCount - 1; i >= 0; i--) {
-                Text it = textAt(i);
-                if (it != null && it.key == key) {
-                    return i;
-                }
-            }
-            return NONE;
-        }
-
-        Text law(int key) {
-            return textAt(lawNumber(key));
-        }
-
         Text textAt(int number) {
-            return within(number, textCount) ? texts[number] : null;
+            return number >= 0 && number < textCount ? texts[number] : null;
+        }
+
+        /** The TEXT that counts for a KEY, or null. */
+        Text law(int key) {
+            return within(key, KEYS) ? textAt(lawNumbers[key]) : null;
+        }
+
+        void addText(Text it) {
+            if (textCount < MOST_TEXTS && within(it.key, KEYS)) {
+                texts[textCount] = it;
+                lawNumbers[it.key] = textCount;
+                textCount++;
+            }
         }
 
         /** OFF stands by itself, since RIGHT asks for others than the CLOCK has. */
