@@ -84,6 +84,25 @@ public final class TextsTest {
         fault("fee\t1", 3);
         fault("fee 1+*2", 6);
         fault("fee 1<=2", 6);
+        fault("fee ez", 4);
+        fault("fee ae", 4);
+        fault("fee 1z", 5);
+        fault("xgain 5", 0);
+        fault("aga", 0);
+        fault("againh", 0);
+        fault("again h", -1);
+    }
+
+    /** What was read before leaves no trace. */
+    private static void oneBehindAnother() {
+        StrokesHeard x = new StrokesHeard();
+        due.is("stops at a word", Due.read(x, "fee oo"), -104);
+        due.is("begins with a word", Due.read(x, "fee e+1"), 0);
+        due.is("stops at a sign", Due.read(x, "fee (1+2+3+4"), -112);
+        due.is("goes on", Due.read(x, "fee m"), 1);
+        due.is("one piece", x.textTold(1, 1), 1);
+        due.is("the fee", x.fee(), 0);
+        due.is("two", x.count(4), 2);
     }
 
     private static void depths() {
@@ -209,6 +228,7 @@ public final class TextsTest {
     public static void main(String[] args) {
         tape();
         faults();
+        oneBehindAnother();
         depths();
         values();
         textTold();

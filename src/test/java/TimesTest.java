@@ -49,6 +49,16 @@ public final class TimesTest {
         due.is("twelve hours", x.may(1), 4095);
     }
 
+    /** Six tunes at twelve strike more than any other clocks can: 96. */
+    private static void loudest() {
+        StrokesHeard x = new StrokesHeard();
+        for (int i = 0; i < 6; i++) x.clock(3, 0, 0);
+        due.is("heard", x.minutes(1), 96);
+        due.is("only twelve", x.may(0), 1);
+        due.is("which", x.may(2), 0);
+        due.is("fits", x.fits(0), 1);
+    }
+
     private static void nothingFits() {
         StrokesHeard x = new StrokesHeard();
         x.clock(0, 0, 0);
@@ -214,6 +224,7 @@ public final class TimesTest {
     public static void main(String[] args) {
         fits();
         fitsByEarAndNoise();
+        loudest();
         nothingFits();
         next();
         parts();
