@@ -842,10 +842,10 @@ public final class StrokesHeard {
         int strokesAt(Clock it, int time) {
             int own = Math.floorMod(time - it.off, TIMES);
             int h = own < HOUR ? HOURS : own / HOUR;
-            int minute = own % HOUR;
-            boolean asksAgain = isUnder(it.kind, TWICE) && minute >= FIRST_AGAIN && minute <= LAST_AGAIN;
+            int past = own % HOUR;
+            boolean asksAgain = isUnder(it.kind, TWICE) && past >= FIRST_AGAIN && past <= LAST_AGAIN;
             int again = asksAgain ? againMinute(it, it.off, h) : FIRST_AGAIN;
-            return strokesWithin(it.kind, h, minute, again);
+            return strokesWithin(it.kind, h, past, again);
         }
 
         int strokesOfAllTimes(Clock it) {
