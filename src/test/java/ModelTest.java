@@ -27,6 +27,8 @@ public final class ModelTest {
     }
     /** The dear ones for the model, which are called more rarely. */
     private static final List<String> DEAR = List.of("right", "telling", "listen", "astray");
+    /** No run goes beyond 512 calls, since nothing is promised then; one step makes some 65 at most. */
+    private static final int LAST_STEP = 512 - 65;
 
     private final Random lot;
     private StrokesHeard x = new StrokesHeard();
@@ -126,7 +128,7 @@ public final class ModelTest {
 
     private boolean run(int calls) throws Exception {
         if (lot.nextInt(3) != 0) call("deal", 1 + lot.nextInt(6));
-        for (int i = 0; i < calls && right; i++) {
+        for (int i = 0; i < calls && right && trail.size() < LAST_STEP; i++) {
             int die = lot.nextInt(60);
             if (die < 5) tellLaw();
             else if (die == 5) tellMinutes();
@@ -153,7 +155,7 @@ public final class ModelTest {
     }
 
     public static void main(String[] args) throws Exception {
-        int runs = args.length > 0 ? Integer.parseInt(args[0]) : 150;
+        int runs = args.length > 0 ? Integer.parseInt(args[0]) : 250;
         int from = args.length > 1 ? Integer.parseInt(args[1]) : 1;
         boolean right = true;
         for (int seed = from; seed < from + runs && right; seed++) {
