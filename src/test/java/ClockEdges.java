@@ -52,6 +52,12 @@ final class ClockEdges {
         e.promise(1, "a new object has nothing of another one");
         Edges.made(Edges::rich);
         e.alike("two new ones", new StrokesHeard(), x);
+        e.promise(1, "An object is used for at most 512 calls: the last one");
+        StrokesHeard used = Edges.one(0, 0, 0);
+        for (int call = 2; call < 510; call++) used.seed(call);
+        e.is("the 510th", used.minutes(1), 12);
+        e.is("the 511th", used.note(0), 12);
+        e.is("the 512th", used.may(3), 1);
     }
 
     private static void clock(Edges e) {
