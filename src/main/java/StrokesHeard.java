@@ -680,7 +680,7 @@ public final class StrokesHeard {
 
     private static boolean isUnder(int kind, int wanted) {
         int at = kind;
-        for (int steps = 0; steps < KINDS && at >= 0; steps++) {
+        for (int steps = 0; steps < KINDS && within(at, KINDS); steps++) {
             if (at == wanted) {
                 return true;
             }
@@ -1048,7 +1048,7 @@ public final class StrokesHeard {
 
         int value(int first, int second, int third) {
             int top = 0;
-            for (int i = 0; i < steps.length; i++) {
+            for (int i = 0; i < steps.length && top < stack.length; i++) {
                 int step = steps[i];
                 if (step >= 0) {
                     stack[top] = step;

@@ -41,6 +41,23 @@ public final class RulesTest {
         due.is("classes", StrokesHeard.class.getDeclaredClasses().length < 12 ? 1 : 0, 1);
     }
 
+    /** Static fields are final and of the sorts that rule 5 names; a class has some twenty others at most (rule 11). */
+    private static void fields(Class<?> it) {
+        Set<Class<?>> sorts = Set.of(int.class, long.class, boolean.class, char.class, String.class,
+            int[].class, long[].class, char[].class, byte[].class);
+        int own = 0;
+        for (Field f : it.getDeclaredFields()) {
+            if (!Modifier.isStatic(f.getModifiers())) {
+                own++;
+                continue;
+            }
+            due.is(f + " is final", Modifier.isFinal(f.getModifiers()) ? 1 : 0, 1);
+            due.is(f + " is of a sort that a static field may be of", sorts.contains(f.getType()) ? 1 : 0, 1);
+        }
+        due.is("fields of " + it + ": " + own, own <= 20 ? 1 : 0, 1);
+        for (Class<?> inside : it.getDeclaredClasses()) fields(inside);
+    }
+
     private static void constants() {
         int[] is = {StrokesHeard.BAD, StrokesHeard.NO, StrokesHeard.FULL, StrokesHeard.NONE,
             StrokesHeard.NOTHING, StrokesHeard.KIND, StrokesHeard.INDEX, StrokesHeard.SIZE};
@@ -114,6 +131,7 @@ public final class RulesTest {
 
     public static void main(String[] args) throws Exception {
         face();
+        fields(StrokesHeard.class);
         constants();
         words();
         room();
